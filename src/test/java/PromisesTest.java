@@ -114,6 +114,7 @@ public final class PromisesTest {
         due("leaves()", x.leaves(), STATE);
         due("pusherIs(0, 0)", x.pusherIs(0, 0), BEYOND);
         due("pusher(12) behind leaves", x.pusher(12), 0);
+        due("its m", x.pusherIs(0, 1), 2);
     }
 
     private static void pushes() {
@@ -266,6 +267,9 @@ public final class PromisesTest {
         gives("1|0", 1);
         gives("0|0", 0);
         gives("7&8", 1);
+        gives("1&1", 1);
+        gives("0&1", 0);
+        gives("0|1", 1);
         gives("7&0", 0);
         gives("5|0&0", 1);
         gives("3<4", 1);
@@ -300,6 +304,10 @@ public final class PromisesTest {
         gives("9999*9999*9999", 0);
         gives("50*9999*9999", 99);
         gives("(1|0)*7+(2>1)*8", 15);
+        gives("1<2&2<3", 1);
+        gives("0&0=0", 0);
+        gives("0=1|1", 1);
+        gives("1-1&1", 0);
         gives("5>4=1", -13);
         wraps();
     }
@@ -370,6 +378,11 @@ public final class PromisesTest {
         due("spins without SAND", x.swing(9), 0);
         due("SAND isn't below 0", x.carIs(4), 0);
         due("ICE by 4", x.carIs(1), 45);
+        x.car(4, 9);
+        x.car(1, 99);
+        x.swing(9);
+        due("SAND 1 less", x.carIs(4), 8);
+        x.car(4, 0);
         x.car(0, 60);
         x.car(1, 98);
         x.swing(9);
@@ -442,6 +455,12 @@ public final class PromisesTest {
         due("swings(0) ahead of STATE", x.swings(0), BEYOND);
 
         promise(17);
+        PastTheRim y = new PastTheRim();
+        y.seed(-77789);
+        int low = -77789 * 1103515245 + 12345;
+        due("a z below 0", low < 0 ? 1 : 0, 1);
+        y.swings(1);
+        due("draws above it", y.carIs(2), Math.max(0, (low >>> 8) % 10 - 4));
         due("seed(MIN)", x.seed(MIN), z);
         due("seed(5)", x.seed(5), MIN);
         due("count(5)", x.count(5), 5);
@@ -643,10 +662,21 @@ public final class PromisesTest {
         x.become(1, 3);
         due("gas needs WEIGHT of the set, too", x.crew(4, 8, 1), 9);
         due("of two", x.crew(4, 8, 0), 2);
+        allAreNeeded();
         x.car(2, 20);
         x.swing(0);
         due("it is OUT", x.crew(0, 1, 0), 0);
         due("it is OUT", x.crew(0, 1, 1), 0);
+    }
+
+    private static void allAreNeeded() {
+        PastTheRim x = withPushers(9, 9, 9, 9, 9, 9);
+        x.car(0, 45);
+        due("five", x.crew(6, 1, 1), 31);
+        due("all six", x.crew(0, 1, 0), 6);
+        due("all six", x.crew(0, 1, 1), 63);
+        x.car(0, 60);
+        due("not even all", x.crew(9, 1, 1), NONE);
     }
 
     private static void deepest() {
@@ -672,6 +702,9 @@ public final class PromisesTest {
         due("BEYOND ahead", x.deepest(9, 0), BEYOND);
 
         promise(25);
+        PastTheRim low = new PastTheRim();
+        low.car(0, 9);
+        due("the least DEPTH", low.deepest(3, 1), 1);
         due("STATE", x.strokes(9, 1), STATE);
         due("BEYOND ahead", x.strokes(9, 61), BEYOND);
         due("BEYOND ahead", x.strokes(10, 1), BEYOND);
@@ -771,6 +804,7 @@ public final class PromisesTest {
         due("3 of 10 don't, each time", x.odds(3, 0), outs);
         due("973 by 1000", x.odds(3, 1), 1000);
         due("91 by 100", x.odds(2, 0), 91);
+        due("91 by 100", x.odds(2, 1), 100);
         x.swing(9);
         due("STATE", x.odds(1, 0), STATE);
         due("BEYOND ahead", x.odds(1, 2), BEYOND);
@@ -872,6 +906,7 @@ public final class PromisesTest {
         x.pusher(5);
         x.pusher(5);
         due("levels(1)", x.levels(1), 2);
+        due("all 0 again", x.pusherIs(0, 1), 0);
         due("all 0 again", x.pusherIs(1, 1), 0);
 
         promise(31);
@@ -951,9 +986,13 @@ public final class PromisesTest {
         due("up to 10", x.levels(0), 1);
         due("m", x.pusherIs(0, 1), 1);
         due("m stays", x.pusherIs(2, 1), 7);
+        heights(x, 0, 8, 4, 5);
+        due("no more numbers", x.levels(0), 2);
+        due("m stays", x.pusherIs(2, 1), 7);
         heights(x, 0, 32, -1, 2, 3);
         int told = x.told(1) + x.told(2) + x.told(3);
         due("up to -1", x.levels(0), 0);
+        due("m stays", x.pusherIs(0, 1), 4);
         due("no ERROR", x.told(1) + x.told(2) + x.told(3), told);
     }
 
@@ -989,10 +1028,17 @@ public final class PromisesTest {
         due("from the first on", x.judge(0), 1);
         x.sheet(1, 8, 0);
         due("no numbers", x.judge(1), 0);
+        text(x, 1, "99");
+        x.sheet(1, 8, 3);
+        due("as many as there are", x.judge(1), 3);
+        text(x, 1, "0");
         x.swings(n);
         due("OUT", x.carIs(5), 1);
         heights(x, 1, 8, x.carIs(2));
         due("it is OUT", x.judge(1), 0);
+        x.car(2, 99);
+        heights(x, 1, 8, 99);
+        due("it is OUT, and would stay so high", x.judge(1), 0);
     }
 
     private static void image() {
@@ -1001,6 +1047,7 @@ public final class PromisesTest {
         int[] car = {33, 11, 12, 1, 13};
         for (int i = 0; i < 5; i++) x.car(i, car[i]);
         text(x, 0, "w+3");
+        text(x, 1, "4");
         feed(x, "1+i");
         x.tell(8);
         x.seed(99);
@@ -1010,8 +1057,9 @@ public final class PromisesTest {
         due("image()", x.image(), 1);
         due("image()", x.image(), 2);
         long before = sight(x);
-        x.untell(0);
-        text(x, 1, "7");
+        x.text(0);
+        text(x, 0, "5");
+        x.untell(1);
         x.leaves();
         x.become(0, 44);
         x.pusher(29);
@@ -1028,7 +1076,8 @@ public final class PromisesTest {
         due("all is as it was", sight(x), before);
         due("the tape is 1+i", x.text(0), 1);
         due("1+i", x.law(0, 5, 0, 0), 6);
-        due("RUB has none", x.untell(1), 0);
+        due("RUB has its text", x.law(1, 9, 9, 9), 4);
+        due("RUB has its text", x.untell(1), 1);
         due("8 waits", x.check(), 1);
         due("the IMAGE stays", x.restore(), 1);
         due("w+3 again", x.law(0, 5, 0, 4), 7);
