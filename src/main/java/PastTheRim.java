@@ -24,7 +24,7 @@ public final class PastTheRim {
     private final World world = new World();
     private final World kept = new World();
     private final Car thought = new Car();
-    private final Rows rows = new Rows(world);
+    private final Rows rows = new Rows();
     private final Reader reader = new Reader();
     private final Voices voices = new Voices();
     private final Sheet[] sheets = new Sheet[Sheet.SHEETS];
@@ -231,7 +231,7 @@ public final class PastTheRim {
         if (world.car.out) {
             return fails(STATE);
         }
-        rows.seekBest(n);
+        rows.seekBest(world, n);
         if (what == -2) {
             return rows.bestSwings();
         }
@@ -308,7 +308,7 @@ public final class PastTheRim {
         if (heights.isMissing() || !within(heights.size(), 1, Rows.FITS_MOST)) {
             return fails(NONE);
         }
-        int found = rows.seekFits(heights);
+        int found = rows.seekFits(world, heights);
         if (what == -1) {
             return found;
         }
@@ -322,8 +322,8 @@ public final class PastTheRim {
         if (world.car.out) {
             return fails(STATE);
         }
-        int all = n == 1 ? 10 : n == 2 ? 100 : 1000;
-        int outs = rows.countOuts(n, all);
+        int all = Rows.rowsOf(n);
+        int outs = rows.countOuts(world, n);
         int common = commonDivisor(outs, all);
         if (common == 0) {
             return 0;
@@ -1138,33 +1138,37 @@ public final class PastTheRim {
         }
     }
 
-    /** Tries rows of gases, in order, from where the car is; each swing is worked out once. */
+    /** Tries rows of gases, in order, from where the car is; what is aimed at tells which go on. */
     private static final class Rows {
         private static final int PLAN_MOST = 4;
         private static final int FITS_MOST = 3;
         private static final int ODDS_MOST = 3;
+        private static final int BEST = 0;
+        private static final int FITS = 1;
+        private static final int OUTS = 2;
+        /** Less than any HEIGHT less any DEPTH. */
+        private static final int OVER_NONE = -1000;
 
-        private final World world;
         private final Car[] cars = new Car[PLAN_MOST + 1];
+        private final Numbers sought = new Numbers(FITS_MOST);
         private final int[] row = new int[PLAN_MOST];
         private final int[] keptRow = new int[PLAN_MOST];
+        private int aim = BEST;
         private int length = 0;
         private int fewest = 0;
         private int over = 0;
         private int found = 0;
 
-        Rows(World world) {
-            this.world = world;
+        Rows() {
             for (int i = 0; i < cars.length; i++) {
                 cars[i] = new Car();
             }
         }
 
-        void seekBest(int n) {
-            begin(n);
+        void seekBest(World world, int n) {
             fewest = n + 1;
-            over = Integer.MIN_VALUE;
-            tryBest(0);
+            over = OVER_NONE;
+            tryAll(world, BEST, n);
         }
 
         int bestSwings() {
@@ -1180,28 +1184,108 @@ public final class PastTheRim {
         }
 
         /** How many rows come just so; the first of them is kept. */
-        int seekFits(Sheet heights) {
-            begin(heights.size());
-            if (!world.car.out) {
-                tryFits(0, heights);
+        int seekFits(World world, Sheet heights) {
+            sought.empty();
+            for (int i = 0; i < heights.size(); i++) {
+                sought.add(heights.at(i));
             }
+            tryAll(world, FITS, heights.size());
             return found;
         }
 
         /** How many of all the rows of n gases come out. */
-        int countOuts(int n, int all) {
-            begin(n);
-            tryOuts(0, all / 10);
+        int countOuts(World world, int n) {
+            tryAll(world, OUTS, n);
             return found;
         }
 
-        private void begin(int n) {
+        /** How many rows of n gases there are. */
+        static int rowsOf(int n) {
+            int rows = 1;
+            for (int i = 0; i < n && i < PLAN_MOST; i++) {
+                rows *= GAS_MOST + 1;
+            }
+            return rows;
+        }
+
+        private void tryAll(World world, int aimed, int n) {
+            aim = aimed;
             length = n;
             found = 0;
             Car first = carAt(0);
-            if (first != null) {
+            if (first != null && !world.car.out) {
                 first.copyFrom(world.car);
+                tryFrom(world, 0);
             }
+        }
+
+        /** What grips, pushes and rubs is as ahead of the swing: alike for all gases of a level. */
+        private void tryFrom(World world, int level) {
+            Car from = carAt(level);
+            Car to = carAt(level + 1);
+            if (from == null || to == null) {
+                return;
+            }
+            int grip = world.gripOf(from, Pushers.ALL);
+            int push = world.pushOf(from, Pushers.ALL);
+            int rub = world.rubOf(from);
+            for (int gas = 0; gas <= GAS_MOST; gas++) {
+                to.copyFrom(from);
+                to.go(gas, grip, push, rub);
+                note(level, gas);
+                goOn(world, level, to);
+            }
+        }
+
+        private void goOn(World world, int level, Car to) {
+            if (goesOn(level, to) && !to.out && level + 1 < length) {
+                tryFrom(world, level + 1);
+            }
+        }
+
+        /** Weighs the row up to a level, and tells whether what is behind it can matter. */
+        private boolean goesOn(int level, Car to) {
+            switch (aim) {
+                case FITS: return fitsSoFar(level, to);
+                case OUTS: return countsIfOut(level, to);
+                default: return canBeBetter(level, to);
+            }
+        }
+
+        /** Rows come in order, so only a better one takes the place of the one that is kept. */
+        private boolean canBeBetter(int level, Car to) {
+            int swings = level + 1;
+            int ahead = to.height - to.depth;
+            boolean outSooner = to.out && swings < fewest;
+            boolean higher = !to.out && swings == length && fewest > length && ahead > over;
+            if (outSooner) {
+                fewest = swings;
+            }
+            if (outSooner || higher) {
+                over = ahead;
+                keep(level);
+            }
+            return swings + 1 < fewest;
+        }
+
+        private boolean fitsSoFar(int level, Car to) {
+            if (to.height != sought.at(level)) {
+                return false;
+            }
+            if (level + 1 == length) {
+                if (found == 0) {
+                    keep(level);
+                }
+                found++;
+            }
+            return true;
+        }
+
+        private boolean countsIfOut(int level, Car to) {
+            if (to.out) {
+                found += rowsOf(length - level - 1);
+            }
+            return true;
         }
 
         private Car carAt(int level) {
@@ -1218,96 +1302,6 @@ public final class PastTheRim {
         private void keep(int level) {
             for (int i = 0; i < row.length && i < keptRow.length; i++) {
                 keptRow[i] = i <= level ? row[i] : 0;
-            }
-        }
-
-        private void tryBest(int level) {
-            Car from = carAt(level);
-            Car to = carAt(level + 1);
-            if (from == null || to == null) {
-                return;
-            }
-            int grip = world.gripOf(from, Pushers.ALL);
-            int push = world.pushOf(from, Pushers.ALL);
-            int rub = world.rubOf(from);
-            for (int gas = 0; gas <= GAS_MOST; gas++) {
-                to.copyFrom(from);
-                to.go(gas, grip, push, rub);
-                note(level, gas);
-                weighBest(level, to);
-            }
-        }
-
-        /** Rows come in order, so only a better one takes the place of the one that is kept. */
-        private void weighBest(int level, Car to) {
-            int ahead = to.height - to.depth;
-            if (to.out) {
-                if (level + 1 < fewest) {
-                    fewest = level + 1;
-                    over = ahead;
-                    keep(level);
-                }
-            } else if (level + 1 == length) {
-                if (fewest > length && ahead > over) {
-                    over = ahead;
-                    keep(level);
-                }
-            } else if (level + 2 < fewest) {
-                tryBest(level + 1);
-            }
-        }
-
-        private void tryFits(int level, Sheet heights) {
-            Car from = carAt(level);
-            Car to = carAt(level + 1);
-            if (from == null || to == null) {
-                return;
-            }
-            int grip = world.gripOf(from, Pushers.ALL);
-            int push = world.pushOf(from, Pushers.ALL);
-            int rub = world.rubOf(from);
-            for (int gas = 0; gas <= GAS_MOST; gas++) {
-                to.copyFrom(from);
-                to.go(gas, grip, push, rub);
-                note(level, gas);
-                if (to.height == heights.at(level)) {
-                    fitsSoFar(level, to, heights);
-                }
-            }
-        }
-
-        private void fitsSoFar(int level, Car to, Sheet heights) {
-            if (level + 1 == length) {
-                if (found == 0) {
-                    keep(level);
-                }
-                found++;
-            } else if (!to.out) {
-                tryFits(level + 1, heights);
-            }
-        }
-
-        private void tryOuts(int level, int rowsBehind) {
-            Car from = carAt(level);
-            Car to = carAt(level + 1);
-            if (from == null || to == null) {
-                return;
-            }
-            int grip = world.gripOf(from, Pushers.ALL);
-            int push = world.pushOf(from, Pushers.ALL);
-            int rub = world.rubOf(from);
-            for (int gas = 0; gas <= GAS_MOST; gas++) {
-                to.copyFrom(from);
-                to.go(gas, grip, push, rub);
-                weighOuts(level, to, rowsBehind);
-            }
-        }
-
-        private void weighOuts(int level, Car to, int rowsBehind) {
-            if (to.out) {
-                found += rowsBehind;
-            } else if (level + 1 < length) {
-                tryOuts(level + 1, rowsBehind / 10);
             }
         }
     }

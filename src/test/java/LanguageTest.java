@@ -96,8 +96,7 @@ public final class LanguageTest {
         holds("no text joined by +", !text.contains("\""));
         holds("rule 4: of System, arraycopy alone", !Pattern.compile("System\\.(?!arraycopy\\()").matcher(text).find());
         holds("rule 4: of Math, max and min alone", !Pattern.compile("Math\\.(?!max\\(|min\\()").matcher(text).find());
-        holds("rule 4: of Integer, bitCount, MIN_VALUE, MAX_VALUE alone",
-            !Pattern.compile("Integer\\.(?!bitCount\\(|MIN_VALUE|MAX_VALUE)").matcher(text).find());
+        holds("rule 4: of Integer, bitCount alone", !Pattern.compile("Integer\\.(?!bitCount\\()").matcher(text).find());
         holds("rule 5: no static block", !Pattern.compile("static\\s*\\{").matcher(text).find());
     }
 
