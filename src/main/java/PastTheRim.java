@@ -870,8 +870,9 @@ public final class PastTheRim {
         private static final int MOST = 99;
 
         private final int use;
-        private final Numbers code = new Numbers(CODE_MOST);
+        private final int[] code = new int[CODE_MOST];
         private final int[] stack = new int[CODE_MOST];
+        private int length = 0;
         private boolean hasText = false;
 
         Law(int use) {
@@ -879,7 +880,10 @@ public final class PastTheRim {
         }
 
         void takes(Numbers text) {
-            code.copyFrom(text);
+            length = Math.min(text.size(), code.length);
+            for (int i = 0; i < length; i++) {
+                code[i] = text.at(i);
+            }
             hasText = true;
         }
 
@@ -894,7 +898,8 @@ public final class PastTheRim {
         }
 
         void copyFrom(Law other) {
-            code.copyFrom(other.code);
+            length = other.length;
+            System.arraycopy(other.code, 0, code, 0, length);
             hasText = other.hasText;
         }
 
@@ -904,32 +909,27 @@ public final class PastTheRim {
 
         private int byText(int a, int b, int c) {
             int top = 0;
-            for (int i = 0; i < code.size(); i++) {
-                int sign = code.at(i);
-                if (sign == -'!') {
+            for (int i = 0; i < length && i < code.length; i++) {
+                int sign = code[i];
+                if (sign >= Reader.NAME_LAST) {
+                    if (top < stack.length) {
+                        stack[top] = sign >= 0 ? sign : valueOf(sign, a, b, c);
+                        top++;
+                    }
+                } else if (sign == -'!') {
                     if (top >= 1 && top <= stack.length) {
                         stack[top - 1] = truth(stack[top - 1] == 0);
                     }
-                } else if (sign < Reader.NAME_LAST) {
-                    if (top >= 2 && top <= stack.length) {
-                        top--;
-                        stack[top - 1] = workedOut(-sign, stack[top - 1], stack[top]);
-                    }
-                } else if (top < stack.length) {
-                    stack[top] = valueOf(sign, a, b, c);
-                    top++;
+                } else if (top >= 2 && top <= stack.length) {
+                    top--;
+                    stack[top - 1] = workedOut(-sign, stack[top - 1], stack[top]);
                 }
             }
             return top >= 1 ? stack[0] : 0;
         }
 
-        private static int valueOf(int sign, int a, int b, int c) {
-            switch (sign) {
-                case -1: return a;
-                case -2: return b;
-                case -3: return c;
-                default: return sign;
-            }
+        private static int valueOf(int name, int a, int b, int c) {
+            return name == -1 ? a : name == -2 ? b : c;
         }
 
         private static int workedOut(int sign, int left, int right) {
