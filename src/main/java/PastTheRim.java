@@ -1328,7 +1328,6 @@ public final class PastTheRim {
         };
 
         private final Numbers trace = new Numbers(TRACE_MOST);
-        private final Numbers begun = new Numbers(TRACE_MOST);
         private int kind = 0;
         private int k = 0;
         private int m = 0;
@@ -1339,20 +1338,15 @@ public final class PastTheRim {
             return voice >= 0 && voice < VOICES;
         }
 
-        /** Works a voice out; one that parts is an error, and leaves the trace as it was. */
+        /** Works a voice out, false if it is parted: the trace has what began till then. */
         boolean speaks(int ofKind, int number, int level, int voice, int x) {
             kind = ofKind;
             k = number;
             m = level;
             parted = false;
-            begun.empty();
-            int said = says(kind, voice, x, 0);
-            if (parted) {
-                return false;
-            }
-            answer = said;
-            trace.copyFrom(begun);
-            return true;
+            trace.empty();
+            answer = says(kind, voice, x, 0);
+            return !parted;
         }
 
         int answer() {
@@ -1363,13 +1357,13 @@ public final class PastTheRim {
             return trace;
         }
 
-        /** A voice by the body that stands at a kind, or at the next above. */
+        /** A voice by the body at a kind, or at the next above; none begins behind PARTED. */
         private int says(int from, int voice, int x, int deep) {
             int body = bodyFrom(from, voice);
-            if (body == 0 || deep >= DEEP_MOST) {
+            if (parted || body == 0 || deep >= DEEP_MOST) {
                 return 0;
             }
-            begun.add(body);
+            trace.add(body);
             return worksOut(body, x, deep + 1);
         }
 

@@ -564,9 +564,8 @@ final class Plain {
         p.k = i;
         p.m = h.people.get(i)[1];
         p.said = new ArrayList<>();
-        int v = voice == 0 ? p.heaves(x) : voice == 1 ? p.slips(x) : voice == 2 ? p.curses(x) : p.parts(x);
         trace = p.said;
-        return v;
+        return voice == 0 ? p.heaves(x) : voice == 1 ? p.slips(x) : voice == 2 ? p.curses(x) : p.parts(x);
     }
 
     int body(int i) {

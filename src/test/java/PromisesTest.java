@@ -857,6 +857,14 @@ public final class PromisesTest {
         says(0, 1, 1, MAX, 0, 11, 10);
         says(50, 1, 1, MAX, 0 - (MIN + 1) * 2, 60, 30, 11, 10);
         says(0, 0, 0, BEYOND, BEYOND, 10);
+        says(2, 2, 3, 7, PARTED, 13);
+        says(0, 0, 3, 0, PARTED, 13);
+        says(12, 2, 3, 7, PARTED, 21, 13);
+        says(22, 2, 3, 7, PARTED, 13);
+        says(32, 2, 3, 7, PARTED, 13);
+        says(42, 2, 3, 7, PARTED, 21, 13);
+        says(52, 2, 3, 7, PARTED, 13);
+        says(62, 2, 3, 7, PARTED, 13);
         wrongVoices();
     }
 
@@ -868,16 +876,24 @@ public final class PromisesTest {
         due("voice(-1, 0, 0)", x.voice(-1, 0, 0), BEYOND);
         due("voice(0, 4, 0)", x.voice(0, 4, 0), BEYOND);
         due("voice(0, -1, 0)", x.voice(0, -1, 0), BEYOND);
+        promise(29);
+        due("BEYOND leaves THE TRACE", x.count(4), 2);
+        due("BEYOND leaves THE TRACE", x.body(0), 11);
+        promise(28);
         due("voice(1, 3, 8)", x.voice(1, 3, 8), PARTED);
         due("told(6)", x.told(6), 1);
         promise(29);
-        due("an ERROR leaves THE TRACE", x.count(4), 2);
-        due("an ERROR leaves THE TRACE", x.body(0), 11);
+        due("PARTED is the latest voice()", x.count(4), 2);
+        due("it began with 21", x.body(0), 21);
+        due("13 parts", x.body(1), 13);
+        due("slips(1) doesn't begin", x.body(2), NONE);
+        due("BEYOND behind PARTED", x.voice(1, 4, 8), BEYOND);
+        due("BEYOND leaves THE TRACE", x.body(1), 13);
         due("body(-1)", x.body(-1), NONE);
         due("body(MAX)", x.body(MAX), NONE);
         promise(28);
         x.voice(0, 0, BEYOND);
-        due("a number that is no ERROR isn't counted", x.told(1), 4);
+        due("a number that is no ERROR isn't counted", x.told(1), 5);
         due("a new one in place of it", x.count(4), 1);
     }
 
