@@ -546,7 +546,7 @@ public final class PastTheRim {
     }
 
     private static boolean isKindAndLevel(int km) {
-        return km >= 0 && km % 10 <= Pushers.LEVEL_MOST && Kinds.isKind(km / 10);
+        return km >= 0 && Kinds.isKind(km / 10);
     }
 
     private static int drawnBehind(int z) {
