@@ -505,14 +505,17 @@ final class CarSentences {
         });
         s.tells(9, "It stands in another hollow of that DEPTH: ICE, HEIGHT, SIDE 0, not OUT: OUTS.", () -> {
             for (int depth : new int[] {1, 33, 60}) {
-                PastTheRim x = Sentences.comeOut();
+                PastTheRim x = new PastTheRim();
+                for (int i = 0; i < 3; i++) x.swing(0);
+                x.car(2, 90);
+                x.swing(0);
                 x.car(1, 40);
                 x.car(3, 1);
                 x.car(4, 7);
                 due("park(" + depth + ")", x.park(depth), 1);
                 int[] want = {depth, 0, 0, 0, 7, 0, 1};
                 for (int i = 0; i < 7; i++) due("carIs(" + i + ")", x.carIs(i), want[i]);
-                due("SWING", x.count(1), 1);
+                due("SWING", x.count(1), 4);
             }
             due("OUTS 0", new PastTheRim().park(1), 0);
         });

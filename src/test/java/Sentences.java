@@ -13,9 +13,10 @@ final class Sentences {
     static final int PARTED = -1000000006;
     static final int MIN = Integer.MIN_VALUE;
     static final int MAX = Integer.MAX_VALUE;
-    /** The part ahead of the promises; a promise's part is its number. */
+    /** The parts of the document: a promise's is its number; not all words of INTRO need a test. */
     static final int TERMS = 0;
-    static final int PARTS = 41;
+    static final int INTRO = 41;
+    private static final int PARTS = 42;
 
     private final String[] parts = new String[PARTS];
     private final boolean[][] quoted = new boolean[PARTS][];
@@ -32,7 +33,7 @@ final class Sentences {
     }
 
     private static String partOf(String doc, int part) {
-        int heading = doc.indexOf(part == TERMS ? "\n## Terms\n" : "\n## Promise " + part + ":");
+        int heading = doc.indexOf(part == TERMS ? "\n## Terms\n" : part == INTRO ? "\n## What it is\n" : "\n## Promise " + part + ":");
         if (heading < 0) return "";
         int from = doc.indexOf("\n", heading + 1);
         int to = doc.indexOf("\n## ", from);
@@ -40,9 +41,13 @@ final class Sentences {
         return text.replaceAll("\\s+", " ").trim();
     }
 
+    private static String nameOf(int part) {
+        return part == TERMS ? "terms" : part == INTRO ? "what it is" : "promise " + part;
+    }
+
     /** A test of words of the document. */
     void tells(int part, String words, Runnable test) {
-        at = (part == TERMS ? "terms: " : "promise " + part + ": ") + words;
+        at = nameOf(part) + ": " + words;
         int place = parts[part].indexOf(words);
         if (place < 0) fails("the document has no such words");
         else Arrays.fill(quoted[part], place, place + words.length(), true);
@@ -65,9 +70,9 @@ final class Sentences {
     /** Looks for words without a test, and tells how it went. */
     boolean ends() {
         for (int part = 0; part < PARTS; part++) {
-            at = part == TERMS ? "terms" : "promise " + part;
+            at = nameOf(part);
             if (parts[part].isEmpty()) fails("the document has no such part");
-            String left = unquoted(part);
+            String left = part == INTRO ? "" : unquoted(part);
             if (!left.isEmpty()) fails("no test has the words: " + left);
         }
         System.out.println("SentencesTest: " + tests + " tests, " + checks + " checks, " + wrong + " wrong");

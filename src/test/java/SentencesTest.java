@@ -36,11 +36,28 @@ public final class SentencesTest {
         }
     }
 
+    /** The last call that is promised answers as the first. */
+    private static void manyCalls(Sentences s) {
+        s.tells(Sentences.INTRO, "An object is used for at most 512 calls after it has been made; what later calls answer is free.", () -> {
+            PastTheRim imaged = new PastTheRim();
+            PastTheRim refused = new PastTheRim();
+            PastTheRim planned = new PastTheRim();
+            PastTheRim rocked = new PastTheRim();
+            for (int call = 1; call <= 512; call++) {
+                s.due("image() as call " + call, imaged.image(), call);
+                s.due("call " + call, call < 512 ? refused.told(7) : refused.told(1), call < 512 ? Sentences.BEYOND : 511);
+                s.due("plan(4, 3) as call " + call, planned.plan(4, 3), 9);
+                s.due("call " + call, call % 2 == 1 ? rocked.park(1) : rocked.swing(9), call % 2 == 1 ? call / 2 : 7);
+            }
+        });
+    }
+
     /** Whether all of the document holds; what doesn't is printed. */
     static boolean holds() throws IOException {
         Path root = Path.of("").toAbsolutePath();
         Sentences s = new Sentences(Files.readString(root.resolve("../shared/DOC.md")));
         interfaceSays(s, Files.readString(root.resolve("src/main/java/PastTheRim.java")));
+        manyCalls(s);
         new CarSentences(s).all();
         new TextSentences(s).all();
         new ThoughtSentences(s).all();
