@@ -242,13 +242,13 @@ public final class PastTheRim {
         if (!isGas(gas)) {
             return fails(BEYOND);
         }
-        int swings = swingsTillOut(gas, STEADY_MOST, Pushers.ALL);
+        int swings = swingsTillOut(gas);
         return swings < 0 ? fails(NONE) : swings;
     }
 
     public int least() {
         for (int gas = 0; gas <= GAS_MOST; gas++) {
-            if (swingsTillOut(gas, STEADY_MOST, Pushers.ALL) >= 0) {
+            if (swingsTillOut(gas) >= 0) {
                 return gas;
             }
         }
@@ -509,9 +509,10 @@ public final class PastTheRim {
         return i >= 0 && i < sheets.length ? sheets[i] : null;
     }
 
-    private int swingsTillOut(int gas, int n, int set) {
+    /** As STEADY; -1 if it isn't out by then. */
+    private int swingsTillOut(int gas) {
         thought.copyFrom(world.car);
-        return world.swingsTillOut(thought, gas, n, set);
+        return world.swingsTillOut(thought, gas, STEADY_MOST, Pushers.ALL);
     }
 
     /** The least of the smallest sets with which it comes out, as bits; -1 if there is none. */
@@ -519,7 +520,8 @@ public final class PastTheRim {
         int pushers = world.pushers.size();
         for (int many = 0; many <= pushers; many++) {
             for (int set = 0; set < 1 << pushers; set++) {
-                if (Integer.bitCount(set) == many && swingsTillOut(gas, n, set) >= 0) {
+                thought.copyFrom(world.car);
+                if (Integer.bitCount(set) == many && world.swingsTillOut(thought, gas, n, set) >= 0) {
                     return set;
                 }
             }
@@ -634,16 +636,6 @@ public final class PastTheRim {
             }
         }
 
-        void write(int i, int v) {
-            if (has(i) && i < cells.length) {
-                cells[i] = v;
-            }
-        }
-
-        void dropLast() {
-            size = Math.max(size - 1, 0);
-        }
-
         void empty() {
             size = 0;
         }
@@ -720,10 +712,6 @@ public final class PastTheRim {
             ice = Math.max(0, ice - ICE_BY_STROKE * strokes);
         }
 
-        boolean goesAhead() {
-            return side == 0;
-        }
-
         boolean isOverTheRim() {
             return height >= depth;
         }
@@ -765,65 +753,75 @@ public final class PastTheRim {
         private static final int LEVEL_MOST = 9;
         private static final int ALL = (1 << PUSHERS_MOST) - 1;
 
-        private final Numbers kinds = new Numbers(PUSHERS_MOST);
-        private final Numbers levels = new Numbers(PUSHERS_MOST);
+        private final int[] kinds = new int[PUSHERS_MOST];
+        private final int[] levels = new int[PUSHERS_MOST];
+        private int size = 0;
 
         int size() {
-            return kinds.size();
+            return size;
         }
 
         boolean has(int i) {
-            return kinds.has(i);
+            return i >= 0 && i < size && i < kinds.length && i < levels.length;
         }
 
         boolean hasRoom() {
-            return kinds.hasRoom(1);
+            return size < PUSHERS_MOST;
         }
 
         int comes(int kind, int level) {
-            kinds.add(kind);
-            levels.add(level);
-            return kinds.size() - 1;
+            if (hasRoom()) {
+                size++;
+                turn(size - 1, kind, level);
+            }
+            return size - 1;
         }
 
         void turn(int i, int kind, int level) {
-            kinds.write(i, kind);
-            levels.write(i, level);
+            if (has(i)) {
+                kinds[i] = kind;
+                levels[i] = level;
+            }
         }
 
         void dropLast() {
-            kinds.dropLast();
-            levels.dropLast();
+            size = Math.max(size - 1, 0);
         }
 
         int kindOf(int i) {
-            return kinds.at(i);
+            return has(i) ? kinds[i] : Kinds.PUSHER;
         }
 
         int levelOf(int i) {
-            return levels.at(i);
+            return has(i) ? levels[i] : 0;
         }
 
         int weightOf(int i) {
-            return kindOf(i) == Kinds.SITTER ? levelOf(i) : 0;
+            return has(i) && kinds[i] == Kinds.SITTER ? levels[i] : 0;
         }
 
         int pushOf(int i, Car car) {
-            int m = levelOf(i);
-            switch (kindOf(i)) {
-                case Kinds.RHYTHM: return asRhythm(m, car);
-                case Kinds.LATE: return asLate(m, car);
-                case Kinds.BACKER: return car.goesAhead() ? 0 : m;
-                case Kinds.LEADER: return asRhythm(m, car) + car.height / 8;
-                case Kinds.TIRED: return Math.max(0, asLate(m, car) - car.swing / 8);
+            if (!has(i)) {
+                return 0;
+            }
+            boolean ahead = car.side == 0;
+            int asPusher = ahead ? levels[i] : 0;
+            int asRhythm = ahead ? levels[i] + 2 : 0;
+            int asLate = car.swing % 2 == 0 ? asPusher : 0;
+            switch (kinds[i]) {
+                case Kinds.RHYTHM: return asRhythm;
+                case Kinds.LATE: return asLate;
+                case Kinds.BACKER: return ahead ? 0 : levels[i];
+                case Kinds.LEADER: return asRhythm + car.height / 8;
+                case Kinds.TIRED: return Math.max(0, asLate - car.swing / 8);
                 case Kinds.SITTER: return 0;
-                default: return asPusher(m, car);
+                default: return asPusher;
             }
         }
 
         int weightOfSet(int set) {
             int sum = 0;
-            for (int i = 0; i < size(); i++) {
+            for (int i = 0; i < size; i++) {
                 sum += isIn(set, i) ? weightOf(i) : 0;
             }
             return sum;
@@ -831,31 +829,20 @@ public final class PastTheRim {
 
         int pushOfSet(int set, Car car) {
             int sum = 0;
-            for (int i = 0; i < size(); i++) {
+            for (int i = 0; i < size; i++) {
                 sum += isIn(set, i) ? pushOf(i, car) : 0;
             }
             return sum;
         }
 
         void copyFrom(Pushers other) {
-            kinds.copyFrom(other.kinds);
-            levels.copyFrom(other.levels);
+            size = other.size;
+            System.arraycopy(other.kinds, 0, kinds, 0, PUSHERS_MOST);
+            System.arraycopy(other.levels, 0, levels, 0, PUSHERS_MOST);
         }
 
         private static boolean isIn(int set, int i) {
             return ((set >> i) & 1) == 1;
-        }
-
-        private static int asPusher(int m, Car car) {
-            return car.goesAhead() ? m : 0;
-        }
-
-        private static int asRhythm(int m, Car car) {
-            return asPusher(m, car) + (car.goesAhead() ? 2 : 0);
-        }
-
-        private static int asLate(int m, Car car) {
-            return car.swing % 2 == 0 ? asPusher(m, car) : 0;
         }
     }
 
@@ -918,7 +905,7 @@ public final class PastTheRim {
                     }
                 } else if (sign == -'!') {
                     if (top >= 1 && top <= stack.length) {
-                        stack[top - 1] = truth(stack[top - 1] == 0);
+                        stack[top - 1] = stack[top - 1] == 0 ? 1 : 0;
                     }
                 } else if (top >= 2 && top <= stack.length) {
                     top--;
@@ -934,11 +921,11 @@ public final class PastTheRim {
 
         private static int workedOut(int sign, int left, int right) {
             switch (sign) {
-                case '|': return truth(left != 0 || right != 0);
-                case '&': return truth(left != 0 && right != 0);
-                case '<': return truth(left < right);
-                case '=': return truth(left == right);
-                case '>': return truth(left > right);
+                case '|': return left != 0 || right != 0 ? 1 : 0;
+                case '&': return left != 0 && right != 0 ? 1 : 0;
+                case '<': return left < right ? 1 : 0;
+                case '=': return left == right ? 1 : 0;
+                case '>': return left > right ? 1 : 0;
                 case '+': return left + right;
                 case '-': return left - right;
                 case '*': return left * right;
@@ -946,10 +933,6 @@ public final class PastTheRim {
                 case '%': return right == 0 ? 0 : left % right;
                 default: return 0;
             }
-        }
-
-        private static int truth(boolean v) {
-            return v ? 1 : 0;
         }
     }
 
@@ -1233,13 +1216,9 @@ public final class PastTheRim {
                 to.copyFrom(from);
                 to.go(gas, grip, push, rub);
                 note(level, gas);
-                goOn(world, level, to);
-            }
-        }
-
-        private void goOn(World world, int level, Car to) {
-            if (goesOn(level, to) && !to.out && level + 1 < length) {
-                tryFrom(world, level + 1);
+                if (goesOn(level, to) && !to.out && level + 1 < length) {
+                    tryFrom(world, level + 1);
+                }
             }
         }
 

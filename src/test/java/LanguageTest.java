@@ -113,6 +113,14 @@ public final class LanguageTest {
         }
     }
 
+    private static void depths() throws IOException {
+        CallDepth calls = new CallDepth(Path.of(System.getProperty("java.class.path")));
+        holds("calls of no method: " + calls.unknown(), calls.unknown().isEmpty());
+        for (String method : calls.methods()) {
+            holds("rule 11: from " + method + " on calls go " + calls.from(method) + " deep", calls.from(method) <= 8);
+        }
+    }
+
     public static void main(String[] args) throws IOException {
         Path root = Path.of("").toAbsolutePath();
         String source = Files.readString(root.resolve("src/main/java/PastTheRim.java"));
@@ -127,6 +135,7 @@ public final class LanguageTest {
         String text = withoutCommentsAndSigns(source);
         words(text);
         lengths(source);
+        depths();
         holds("signs 1 to 127 alone", source.chars().allMatch(c -> c > 0 && c < 128));
         System.out.println("LanguageTest: " + looked + " looked at, " + wrong + " wrong");
         if (wrong != 0) System.exit(1);
