@@ -577,6 +577,10 @@ final class CarSentences {
         shovel(1, 2, 1, 1, 0);
         shovel(1, 0, 1, 1, 0);
         shovel(1, 99, 20, 1, 59);
+        PastTheRim x = Sentences.comeOut();
+        x.car(0, 30);
+        due("shovel(3), OUT", x.shovel(3), 27);
+        due("OUT still", x.carIs(5), 1);
     }
 
     private void shovel(int depth, int ice, int n, int depthThen, int iceThen) {

@@ -202,6 +202,10 @@ final class TextSentences {
     }
 
     private void truths() {
+        String[] no = {"(0|0)+5", "(0&7)+5", "(3<2)+5", "(2=3)+5", "(2>3)+5", "!7+5"};
+        String[] yes = {"(7|8)+5", "(7&8)+5", "(2<3)+5", "(3=3)+5", "(3>2)+5", "!0+5"};
+        for (String signs : no) gives(signs, 5);
+        for (String signs : yes) gives(signs, 6);
         gives("7|0", 1);
         gives("0|8", 1);
         gives("7|8", 1);
