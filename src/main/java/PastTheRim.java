@@ -520,8 +520,11 @@ public final class PastTheRim {
         int pushers = world.pushers.size();
         for (int many = 0; many <= pushers; many++) {
             for (int set = 0; set < 1 << pushers; set++) {
+                if (Integer.bitCount(set) != many) {
+                    continue;
+                }
                 thought.copyFrom(world.car);
-                if (Integer.bitCount(set) == many && world.swingsTillOut(thought, gas, n, set) >= 0) {
+                if (world.swingsTillOut(thought, gas, n, set) >= 0) {
                     return set;
                 }
             }
@@ -630,7 +633,7 @@ public final class PastTheRim {
         }
 
         void add(int v) {
-            if (size < cells.length) {
+            if (size >= 0 && size < cells.length) {
                 cells[size] = v;
                 size++;
             }
@@ -641,7 +644,7 @@ public final class PastTheRim {
         }
 
         void copyFrom(Numbers other) {
-            size = Math.min(other.size, cells.length);
+            size = Math.max(0, Math.min(other.size, Math.min(other.cells.length, cells.length)));
             System.arraycopy(other.cells, 0, cells, 0, size);
         }
     }
@@ -885,7 +888,7 @@ public final class PastTheRim {
         }
 
         void copyFrom(Law other) {
-            length = other.length;
+            length = Math.max(0, Math.min(other.length, CODE_MOST));
             System.arraycopy(other.code, 0, code, 0, length);
             hasText = other.hasText;
         }
